@@ -667,8 +667,9 @@ public final class PartedNet {
         }
 
         void keep(Net net) {
-            if (next >= 0 && next < slots.length) {
-                slots[next].become(net);
+            Net slot = slotAt(next);
+            if (slot != null) {
+                slot.become(net);
                 next = next + 1 == MOST_ACTS ? 0 : next + 1;
                 count = Math.min(count + 1, MOST_ACTS);
             }
@@ -676,11 +677,16 @@ public final class PartedNet {
 
         void takeBack(Net net) {
             int latest = next == 0 ? MOST_ACTS - 1 : next - 1;
-            if (count > 0 && latest >= 0 && latest < slots.length) {
-                net.become(slots[latest]);
+            Net slot = slotAt(latest);
+            if (slot != null && count > 0) {
+                net.become(slot);
                 next = latest;
                 count--;
             }
+        }
+
+        private Net slotAt(int at) {
+            return at >= 0 && at < slots.length ? slots[at] : null;
         }
     }
 
