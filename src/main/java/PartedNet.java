@@ -114,14 +114,11 @@ public final class PartedNet {
         return net.partCount;
     }
 
-    /** How many numbers stand ahead of NONE; 0, which is no part's number, if one stands behind it. */
+    /** One that stands behind NONE makes NONE one of the first so many, which is no node. */
     private int nodesAsked() {
         int count = 0;
         for (int i = 0; i < asked.length; i++) {
             if (asked[i] != NONE) {
-                if (count != i) {
-                    return 0;
-                }
                 count++;
             }
         }
@@ -852,7 +849,7 @@ public final class PartedNet {
             return count > 0;
         }
 
-        /** One number to five into the row; how many, 0 behind a fault. */
+        /** One number to five into the row; how many, 0 behind a fault. A sixth one stands where ";" must. */
         private int readNodes(int[] row, int from, int most) {
             for (int count = 0; count < MOST_PLACES; count++) {
                 if (count > 0 && kind != NUMBER) {
@@ -865,10 +862,6 @@ public final class PartedNet {
                     row[from + count] = value;
                 }
                 advance();
-            }
-            if (kind == NUMBER) {
-                refuse(1);
-                return 0;
             }
             return MOST_PLACES;
         }

@@ -103,6 +103,15 @@ public final class SearchTest {
         PartedNet net = Due.told("nodes 7;all;");
         DUE.same("7 nodes ways", net.search(0), 30);
         DUE.same("9 nodes ways", Due.told("nodes 9;all;").search(0), 840);
+        Due.tell(net, "nodes 4;all;shape star 3;");
+        DUE.same("stars", net.search(0), 0);
+        Due.tell(net, "nodes 4;all;shape path 3;");
+        DUE.same("paths of the same lines", net.search(0), 6);
+        Due.tell(net, "nodes 4;all;shape path 1;");
+        DUE.same("paths of one line", net.search(1), 6);
+        Due.tell(net, "nodes 5;line 0 1;line 0 2;line 0 3;line 0 4;line 1 2;line 1 3;shape path 3;");
+        DUE.same("the same bits on more nodes", net.search(0), Due.told("nodes 5;line 0 1;line 0 2;line 0 3;line 0 4;"
+                + "line 1 2;line 1 3;shape path 3;").search(0));
         DUE.unfit("search(3)", () -> net.search(3));
         DUE.unfit("search(-1)", () -> net.search(-1));
     }
@@ -139,6 +148,12 @@ public final class SearchTest {
         DUE.same("undo()", net.undo(), 2);
         DUE.same("undo()", net.undo(), 1);
         DUE.same("parts", net.told(4), 1);
+        PartedNet plain = Due.told("nodes 7;all;");
+        PartedNet searched = Due.told("nodes 7;all;");
+        DUE.same("searched ahead", searched.search(0), 30);
+        DUE.same("finish()", plain.finish(), 7);
+        DUE.same("finish() behind a search", searched.finish(), 7);
+        DUE.same("comes to the same", searched.print(), plain.print());
         PartedNet none = Due.told("nodes 4;all;");
         DUE.same("no way", none.finish(), -1);
         DUE.same("no act", none.told(8), 1);
@@ -161,6 +176,8 @@ public final class SearchTest {
         DUE.same("single lines", Due.told("nodes 4;all;shape path 1;part 0 1;part 2 3;").exchanges(0, 1), 0);
         // Stars of 2 around one node: four lines in two couples, three such sharings.
         DUE.same("stars around one", Due.told("nodes 5;all;shape star 2;part 0 1 2;part 0 3 4;").exchanges(0, 1), 2);
+        // A star of lines (0,1), (0,3) would leave (0,2), (3,4), which is none.
+        DUE.same("what is left is no part", Due.told("nodes 5;all;shape star 2;part 0 1 2;part 3 0 4;").exchanges(0, 1), 0);
         DUE.same("a ring of four", Due.told("nodes 4;all;shape path 2;part 0 1 2;part 2 3 0;").exchanges(0, 1), 1);
     }
 
