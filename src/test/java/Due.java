@@ -1,32 +1,99 @@
+import java.util.NoSuchElementException;
+import java.util.function.Supplier;
+
 /** What the tests share: a call, its due answer, and the count of those that are not as due. */
 final class Due {
     interface Call {
         long run();
     }
 
+    interface Ask {
+        long of(PartedNet net);
+    }
+
+    /** In the order of status(). */
+    static final int MISSING = 0;
+    static final int UNFIT = 1;
+    static final int UNTIMELY = 2;
+    private static final String[] REFUSALS = {"throws.NoSuchElementException", "throws.IllegalArgumentException",
+        "throws.IllegalStateException"};
+
     private int wrong = 0;
     private int asked = 0;
+    private String sentence = "";
+
+    /** The sentence of the document that the answers behind this are about. */
+    void promise(int number, String words) {
+        sentence = "promise " + number + " (" + words + "): ";
+    }
 
     void same(String call, long got, long want) {
+        sameText(call, Long.toString(got), Long.toString(want));
+    }
+
+    void sameText(String call, String got, String want) {
         asked++;
-        if (got != want) {
+        if (!got.equals(want)) {
             wrong++;
-            System.out.println(call + " answered " + got + ", due is " + want);
+            System.out.println(sentence + call + " answered " + got + ", due is " + want);
         }
     }
 
     void refused(String call, Class<? extends RuntimeException> due, Call run) {
-        String want = "throws." + due.getSimpleName();
-        String got = outcome(run);
-        asked++;
-        if (!got.equals(want)) {
-            wrong++;
-            System.out.println(call + " answered " + got + ", due is " + want);
+        sameText(call, outcome(run), "throws." + due.getSimpleName());
+    }
+
+    /** The call is refused so, status() counts it, and all else is as on a like object that was not asked. */
+    void refusedAlone(String call, int reason, Supplier<PartedNet> maker, Ask ask) {
+        PartedNet net = maker.get();
+        PartedNet twin = maker.get();
+        sameText(call, outcome(() -> ask.of(net)), REFUSALS[reason]);
+        for (int what = 0; what < 3; what++) {
+            same(call + ", then status(" + what + ")", net.status(what), twin.status(what) + (what == reason ? 1 : 0));
         }
+        sameText(call + ", then all there is", used(net), used(twin));
+    }
+
+    /** The call answers so, and all is then as on a like object that was not asked. */
+    void changesNothing(String call, long due, Supplier<PartedNet> maker, Ask ask) {
+        PartedNet net = maker.get();
+        PartedNet twin = maker.get();
+        same(call, ask.of(net), due);
+        for (int what = 0; what < 3; what++) {
+            same(call + ", then status(" + what + ")", net.status(what), twin.status(what));
+        }
+        sameText(call + ", then all there is", used(net), used(twin));
+    }
+
+    /** All that an object holds, its acts and its tape too; they are used up with it. */
+    static String used(PartedNet net) {
+        StringBuilder all = new StringBuilder(held(net));
+        int bytes = net.told(7);
+        while (net.undo() != PartedNet.NONE) {
+            all.append(" | ").append(held(net));
+        }
+        return all.append(" | ").append(net.text(bytes)).append(" at ").append(net.fault()).toString();
+    }
+
+    /** What an object holds now, in few calls: an object has 512. */
+    static String held(PartedNet net) {
+        StringBuilder held = new StringBuilder();
+        for (int what = 0; what <= 8; what++) {
+            held.append(net.told(what)).append(' ');
+        }
+        held.append(net.fault()).append(' ').append(net.left()).append(' ').append(net.print());
+        for (int base = 0; base < net.told(6); base++) {
+            int node = net.base(base, 0);
+            for (int i = 1; node != PartedNet.NONE; i++) {
+                held.append(' ').append(node);
+                node = net.base(base, i);
+            }
+        }
+        return held.toString();
     }
 
     void missing(String call, Call run) {
-        refused(call, java.util.NoSuchElementException.class, run);
+        refused(call, NoSuchElementException.class, run);
     }
 
     void unfit(String call, Call run) {
