@@ -187,6 +187,8 @@ public final class ActEdgesTest {
                 DUE.same("then line()", net.line(0, due[part][i] + 1, 2), i);
             }
             DUE.same("the line that is left", net.line(0, part + 1, 2), NONE);
+            DUE.same("the parts at its node", net.node(part + 1, 2), 0);
+            DUE.same("the parts at the other node", net.node(0, 2), 3);
             DUE.refused("part(3, 0)", java.util.NoSuchElementException.class, () -> net.part(3, 0));
             DUE.same("put() again comes last", put(net, 0, part + 1), 4);
             DUE.same("line()", net.line(0, part + 1, 2), 3);

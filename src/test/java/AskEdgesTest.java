@@ -46,6 +46,9 @@ public final class AskEdgesTest {
         classesEnds();
         classesFewest();
         askedChangesNothing();
+        askedBehindOthers();
+        searchBehindFinish();
+        classesAgain();
         DUE.end();
     }
 
@@ -473,5 +476,67 @@ public final class AskEdgesTest {
         DUE.changesNothing("print()", maker.get().print(), maker, PartedNet::print);
         DUE.changesNothing("partAt(0)", maker.get().partAt(0), maker, net -> net.partAt(0));
         DUE.changesNothing("status(7)", NONE, maker, net -> net.status(7));
+    }
+
+    private static String answers(PartedNet net) {
+        StringBuilder all = new StringBuilder();
+        all.append(net.parts(0)).append(' ').append(net.parts(1)).append(' ');
+        all.append(Due.outcome(() -> net.partAt(0))).append(' ').append(net.search(1)).append(' ').append(net.search(0));
+        all.append(' ').append(net.search(2)).append(' ').append(net.finish()).append(' ').append(net.print());
+        return all.toString();
+    }
+
+    private static void askedBehindOthers() {
+        DUE.promise(19, "asked, nothing stays changed: an answer is the same behind other nets with the same bits");
+        String bits = "line 0 1;line 0 2;line 0 3;line 0 4;line 1 2;line 1 3;";
+        String[] texts = {"nodes 4;all;shape path 3;", "nodes 4;all;shape star 3;", "nodes 4;all;shape path 2;", "nodes 4;all;",
+            "nodes 4;all;shape ring 4;", "nodes 5;shape path 3;" + bits, "nodes 5;shape star 2;" + bits, "nodes 5;" + bits,
+            "nodes 7;shape path 3;" + bits.replace("1 2", "0 5").replace("1 3", "0 6"), "nodes 4;shape path 3;", "nodes 4;",
+            "nodes 4;all;less 2 3;shape path 2;part 2 1 3;less 0 2;", "nodes 4;line 0 1;line 0 3;shape path 2;"};
+        for (String ahead : texts) {
+            for (String text : texts) {
+                PartedNet net = Due.told(ahead);
+                answers(net);
+                Due.tell(net, text);
+                DUE.sameText(text + " behind " + ahead, answers(net), answers(Due.told(text)));
+            }
+        }
+    }
+
+    private static void searchBehindFinish() {
+        DUE.promise(19, "ways: all of them, though finish() stands still at the first");
+        PartedNet net = Due.told("nodes 7;all;");
+        DUE.same("finish()", net.finish(), 7);
+        DUE.same("search(0) of none left", net.search(0), 1);
+        DUE.same("undo()", net.undo(), 1);
+        DUE.same("finish() again", net.finish(), 7);
+        DUE.same("undo()", net.undo(), 1);
+        DUE.same("search(0)", net.search(0), 30);
+        PartedNet turned = Due.told("nodes 7;all;");
+        int steps = turned.search(1);
+        DUE.same("search(1), then finish()", turned.finish(), 7);
+        DUE.same("undo()", turned.undo(), 1);
+        DUE.same("search(1)", turned.search(1), steps);
+    }
+
+    private static void classesAgain() {
+        DUE.promise(21, "the fewest of what is put in now");
+        PartedNet net = Due.told("nodes 6;all;shape path 1;part 0 1;part 0 2;part 3 4;");
+        DUE.same("classes()", net.classes(), 2);
+        DUE.same("classes() again", net.classes(), 2);
+        net.take(1);
+        DUE.same("without one of them", net.classes(), 1);
+        net.put(2, 5, NONE, NONE, NONE);
+        DUE.same("with another one", net.classes(), 1);
+        net.put(5, 4, NONE, NONE, NONE);
+        DUE.same("with one more", net.classes(), 2);
+        Due.tell(net, "nodes 6;all;part 0 1 2;part 3 4 5;");
+        DUE.same("of another text", net.classes(), 1);
+        net.undo();
+        DUE.same("behind undo()", net.classes(), 2);
+        while (net.told(4) > 0) {
+            net.take(0);
+        }
+        DUE.same("of none", net.classes(), 0);
     }
 }

@@ -245,6 +245,25 @@ public final class TextEdgesTest {
         fault("nodes 3:;", 1, 7);
         fault("nodes /3;", 1, 6);
         fault("nodes :3;", 1, 6);
+        fault("nodes 3;allz;", 1, 8);
+        fault("nodes 3;alla;", 1, 8);
+        fault("zzz", 1, 0);
+        DUE.promise(3, "no other words than these, letter by letter");
+        otherWords("", "nodes", " 3;");
+        for (String word : new String[] {"all", "line", "less", "shape", "part", "base"}) {
+            otherWords("nodes 3;", word, " 0 1 2;");
+        }
+        for (String word : new String[] {"triangle", "path", "star", "ring"}) {
+            otherWords("nodes 3;shape ", word, " 3;");
+        }
+    }
+
+    private static void otherWords(String ahead, String word, String behind) {
+        for (int i = 0; i < word.length(); i++) {
+            char next = (char) (word.charAt(i) + 1);
+            fault(ahead + word.substring(0, i) + next + word.substring(i + 1) + behind, 1, ahead.length());
+            fault(ahead + word.substring(0, i) + word.substring(i + 1) + behind, 1, ahead.length());
+        }
     }
 
     private static void blanks() {
