@@ -5,7 +5,7 @@ public final class AskEdgesTest {
     private static final Due DUE = new Due();
     private static final int NONE = PartedNet.NONE;
     private static final int[] ODD = {-2, Integer.MIN_VALUE, Integer.MAX_VALUE};
-    /** 9 nodes, 30 lines, a path of 2, 3 parts, 24 left, 4 bases, 40 bytes, 5 acts: no two alike. */
+    /** 9 nodes, 30 lines, a path of 2, 3 parts, 24 left, 4 bases, 40 bytes, 6 acts: no two alike. */
     private static final Supplier<PartedNet> UNLIKE = () -> {
         PartedNet net = Due.told("nodes 9;all;less 7 8;less 6 8;less 5 8;less 4 8;less 3 8;less 2 8;shape path 2;"
                 + "base 0 1 2;base 0 1 2;base 0 1 2;base 0 1 2;");
@@ -482,8 +482,13 @@ public final class AskEdgesTest {
         StringBuilder all = new StringBuilder();
         all.append(net.parts(0)).append(' ').append(net.parts(1)).append(' ');
         all.append(Due.outcome(() -> net.partAt(0))).append(' ').append(net.search(1)).append(' ').append(net.search(0));
-        all.append(' ').append(net.search(2)).append(' ').append(net.finish()).append(' ').append(net.print());
-        return all.toString();
+        all.append(' ').append(net.search(2));
+        int come = net.finish();
+        all.append(' ').append(come).append(' ').append(net.print());
+        if (come != NONE) {
+            net.undo();
+        }
+        return all.append(' ').append(net.search(0)).append(' ').append(net.search(2)).toString();
     }
 
     private static void askedBehindOthers() {
@@ -492,7 +497,8 @@ public final class AskEdgesTest {
         String[] texts = {"nodes 4;all;shape path 3;", "nodes 4;all;shape star 3;", "nodes 4;all;shape path 2;", "nodes 4;all;",
             "nodes 4;all;shape ring 4;", "nodes 5;shape path 3;" + bits, "nodes 5;shape star 2;" + bits, "nodes 5;" + bits,
             "nodes 7;shape path 3;" + bits.replace("1 2", "0 5").replace("1 3", "0 6"), "nodes 4;shape path 3;", "nodes 4;",
-            "nodes 4;all;less 2 3;shape path 2;part 2 1 3;less 0 2;", "nodes 4;line 0 1;line 0 3;shape path 2;"};
+            "nodes 4;all;less 2 3;shape path 2;part 2 1 3;less 0 2;", "nodes 4;line 0 1;line 0 3;shape path 2;",
+            "nodes 8;all;shape path 2;"};
         for (String ahead : texts) {
             for (String text : texts) {
                 PartedNet net = Due.told(ahead);
@@ -538,5 +544,11 @@ public final class AskEdgesTest {
             net.take(0);
         }
         DUE.same("of none", net.classes(), 0);
+        Due.tell(net, "nodes 6;all;shape path 1;part 0 1;part 2 3;");
+        DUE.same("two apart", net.classes(), 1);
+        net.take(0);
+        DUE.same("the second one", net.classes(), 1);
+        net.put(0, 1, NONE, NONE, NONE);
+        DUE.same("two apart the other way round", net.classes(), 1);
     }
 }

@@ -25,6 +25,7 @@ public final class RoundEdgesTest {
         statusNumbers();
         statusCounts();
         notRefused();
+        lastCalls();
         DUE.end();
     }
 
@@ -33,7 +34,6 @@ public final class RoundEdgesTest {
         for (int n = 3; n <= 31; n++) {
             int round = n;
             DUE.same("cover(" + n + ", 1)", TRIANGLE.get().cover(n, 1), n == 3 ? 2 : n == 4 ? 2 : 1);
-            Due.outcome(() -> TRIANGLE.get().cover(round, round / 2));
             DUE.same("cover(" + n + ", n by 2)", TRIANGLE.get().cover(n, n / 2), due(n));
             DUE.refusedAlone("cover(" + n + ", 0)", Due.UNFIT, TRIANGLE, net -> net.cover(round, 0));
             DUE.refusedAlone("cover(" + n + ", n by 2 and 1)", Due.UNFIT, TRIANGLE, net -> net.cover(round, round / 2 + 1));
@@ -279,5 +279,22 @@ public final class RoundEdgesTest {
         for (int what = 0; what < 3; what++) {
             DUE.same("status(" + what + ")", net.status(what), 0);
         }
+    }
+
+    private static void lastCalls() {
+        DUE.promise(26, "an object is used for at most 512 calls: the last one of them");
+        PartedNet net = new PartedNet();
+        for (int call = 1; call < 512; call++) {
+            DUE.refused("take(0)", java.util.NoSuchElementException.class, () -> net.take(0));
+        }
+        DUE.same("the 512th call, status(0)", net.status(0), 511);
+        DUE.promise(10, "an object is used for at most 512 calls: the last one of them");
+        PartedNet acts = new PartedNet();
+        for (int call = 1; call < 511; call += 2) {
+            DUE.same("put()", acts.put(0, 1, 2, NONE, NONE), 1);
+            DUE.same("take(0)", acts.take(0), 0);
+        }
+        DUE.same("the 511th call, undo()", acts.undo(), 7);
+        DUE.same("the 512th call, undo()", acts.undo(), 6);
     }
 }
