@@ -1,3 +1,5 @@
+import java.util.ArrayList;
+import java.util.List;
 import java.util.NoSuchElementException;
 import java.util.function.Supplier;
 
@@ -125,19 +127,24 @@ final class Due {
 
     static int feed(PartedNet net, String text) {
         int fed = 0;
-        for (int from = 0; from < text.length(); from += 20) {
-            fed = net.feed(number(text, from), number(text, from + 4), number(text, from + 8),
-                    number(text, from + 12), number(text, from + 16));
+        for (int[] five : numbers(text)) {
+            fed = net.feed(five[0], five[1], five[2], five[3], five[4]);
         }
         return fed;
     }
 
-    private static int number(String text, int from) {
-        int number = 0;
-        for (int i = from; i < from + 4; i++) {
-            number = number << 8 | (i < text.length() ? text.charAt(i) & 255 : 0);
+    /** The numbers, five a call, that bring a text on the tape. */
+    static List<int[]> numbers(String text) {
+        List<int[]> calls = new ArrayList<>();
+        for (int from = 0; from < text.length(); from += 20) {
+            int[] five = new int[5];
+            for (int i = 0; i < 20; i++) {
+                int sign = from + i < text.length() ? text.charAt(from + i) & 255 : 0;
+                five[i / 4] = five[i / 4] << 8 | sign;
+            }
+            calls.add(five);
         }
-        return number;
+        return calls;
     }
 
     static PartedNet told(String text) {

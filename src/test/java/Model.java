@@ -392,15 +392,18 @@ final class Model {
     }
 
     private static final class Search {
-        final List<Long> pool;
+        /** In order, by their least line. */
+        final Map<Long, List<Long>> pool = new HashMap<>();
         final List<Long> path = new ArrayList<>();
         List<Long> first = null;
         int ways = 0;
         int steps = 0;
         boolean cut = false;
 
-        Search(List<Long> pool) {
-            this.pool = pool;
+        Search(List<Long> parts) {
+            for (long part : parts) {
+                pool.computeIfAbsent(Long.lowestOneBit(part), least -> new ArrayList<>()).add(part);
+            }
         }
 
         void go(long left) {
@@ -411,12 +414,11 @@ final class Model {
                 }
                 return;
             }
-            long least = Long.lowestOneBit(left);
-            for (long part : pool) {
-                if (Long.lowestOneBit(part) > least || cut) {
+            for (long part : pool.getOrDefault(Long.lowestOneBit(left), List.of())) {
+                if (cut) {
                     return;
                 }
-                if ((part & least) != 0 && (part & left) == part) {
+                if ((part & left) == part) {
                     if (steps == 20000) {
                         cut = true;
                         return;

@@ -4,11 +4,16 @@ import java.util.Random;
 
 /** Runs of calls, drawn with fixed seeds, on the class and on the model: each answer must be the same. */
 public final class ModelTest {
-    private static final int RUNS = 300;
+    private static final int RUNS = 900;
     private static final int CALLS = 512;
+    /** What most texts of a run are like: of all kinds, full of faults, with bases that are good. */
+    private static final int MIXED = 0;
+    private static final int FAULTY = 1;
+    private static final int ROUND = 2;
     private static final int[] ODD = {Integer.MIN_VALUE, Integer.MAX_VALUE, -2, -1, 12, 31, 32, 300, 301, 1 << 30};
 
     private final Random random;
+    private final int kind;
     private final PartedNet net = new PartedNet();
     private final Model model = new Model();
     private final List<String> log = new ArrayList<>();
@@ -16,6 +21,7 @@ public final class ModelTest {
 
     private ModelTest(long seed) {
         random = new Random(seed);
+        kind = seed % 6 == 4 ? FAULTY : seed % 6 == 5 ? ROUND : MIXED;
     }
 
     public static void main(String[] args) {
@@ -40,8 +46,8 @@ public final class ModelTest {
 
     private void run() {
         for (int left = CALLS; left > 0 && !wrong; left -= 1) {
-            if (random.nextInt(25) == 0 && left > 20) {
-                left -= tell(texts());
+            if (random.nextInt(kind == FAULTY ? 5 : 25) == 0 && left > 40) {
+                left -= tell(kind == FAULTY ? faultyText() : kind == ROUND ? roundText() : texts());
             } else {
                 draw(random.nextInt(34));
             }
@@ -78,7 +84,7 @@ public final class ModelTest {
         int what = near(3);
         int one = near(parts);
         int other = near(parts);
-        int n = near(29) + 3;
+        int n = kind == ROUND && random.nextBoolean() ? nodes : near(29) + 3;
         int d = near(n / 2) + 1;
         int k = near(4);
         switch (which) {
@@ -88,7 +94,11 @@ public final class ModelTest {
                     () -> net.exchange(one, other, k), () -> model.exchange(one, other, k));
             case 8 -> exchangeSome(parts);
             case 9 -> same("finish()", net::finish, model::finish);
-            case 10 -> same("develop()", net::develop, model::develop);
+            case 10 -> {
+                same("develop()", net::develop, model::develop);
+                same("left()", net::left, model::left);
+                same("print()", net::print, model::print);
+            }
             case 11, 12 -> same("undo()", net::undo, model::undo);
             case 13, 14 -> {
                 int told = near(9);
@@ -167,14 +177,14 @@ public final class ModelTest {
     private int tell(String text) {
         log.add("the text: " + text);
         int calls = 0;
-        for (int from = 0; from < text.length(); from += 20) {
-            int[] five = new int[5];
-            for (int i = 0; i < 20; i++) {
-                int sign = from + i < text.length() ? text.charAt(from + i) & 255 : 0;
-                five[i / 4] = five[i / 4] << 8 | sign;
-            }
+        for (int[] five : Due.numbers(text)) {
             calls++;
             same("feed()", () -> net.feed(five[0], five[1], five[2], five[3], five[4]), () -> model.feed(five));
+        }
+        for (int more = kind == FAULTY && random.nextInt(8) == 0 ? random.nextInt(17) : 0; more > 0; more--) {
+            int any = random.nextInt();
+            calls++;
+            same("feed()", () -> net.feed(any, -any, any >>> 1, ~any, 0), () -> model.feed(any, -any, any >>> 1, ~any, 0));
         }
         int n = random.nextInt(20) == 0 ? near(text.length()) : text.length();
         same("text(" + n + ")", () -> net.text(n), () -> model.text(n));
@@ -223,6 +233,74 @@ public final class ModelTest {
             text.setLength(300);
         }
         return text.toString();
+    }
+
+    /** Words and numbers as a text has them, each one now and then another than can stand there. */
+    private String faultyText() {
+        int rate = random.nextInt(3) == 0 ? 0 : 6 + random.nextInt(40);
+        int nodes = 2 + random.nextInt(10);
+        StringBuilder text = new StringBuilder();
+        loose(text, rate, "nodes", Integer.toString(nodes), ";");
+        int places = 3;
+        for (int entries = random.nextInt(9); entries > 0; entries--) {
+            switch (random.nextInt(7)) {
+                case 0 -> loose(text, rate, "all", ";");
+                case 1, 2 -> loose(text, rate, (pick("line ", "less ") + row(nodes, 2) + " ;").split(" "));
+                case 3 -> loose(text, rate, (pick("part ", "part ", "line ") + row(nodes, places) + " ;").split(" "));
+                case 4, 5 -> loose(text, rate, ("base " + row(31, places) + " ;").split(" "));
+                default -> {
+                    String size = Integer.toString(1 + random.nextInt(5));
+                    String shape = pick("triangle", "path " + size, "star " + size, "ring " + size);
+                    places = shape.startsWith("t") ? 3 : size.charAt(0) - '0' + (shape.startsWith("r") ? 0 : 1);
+                    loose(text, rate, ("shape " + shape + " ;").split(" "));
+                }
+            }
+        }
+        text.append(pick("", "", " ", "   "));
+        text.setLength(Math.min(300, text.length()));
+        return text.toString();
+    }
+
+    /** Puts the tokens behind the text, of so many one amiss (rate 0: none). */
+    private void loose(StringBuilder text, int rate, String... tokens) {
+        for (String token : tokens) {
+            boolean amiss = rate > 0 && random.nextInt(rate) == 0;
+            boolean close = text.length() > 0 && Character.isLetterOrDigit(text.charAt(text.length() - 1))
+                    && Character.isDigit(text.charAt(text.length() - 1)) == Character.isDigit(token.charAt(0));
+            text.append(close || random.nextInt(4) == 0 ? pick(" ", " ", "  ") : "");
+            if (Character.isDigit(token.charAt(0)) && random.nextInt(30) == 0) {
+                text.append(pick("0", "00", "000000000000"));
+            }
+            text.append(!amiss ? token : pick("", token + token, token + " " + token, "0", "5", "11", "30", "31", "99999999999",
+                    "4294967297", "al", "alls", "base", "part", "shape", "ring", "nodes", ";", ";;", ",", "-1", "A", "\t", "\u0000"));
+        }
+    }
+
+    /** Bases that are good round the nodes, if some drawing comes to such; a path's may have a node again. */
+    private String roundText() {
+        int nodes = 3 + random.nextInt(9);
+        int differences = (nodes - 1) / 2;
+        int bases = differences % 2 == 0 && random.nextBoolean() ? 2 : random.nextInt(4) == 0 ? differences : 1;
+        int size = bases > 4 ? differences : differences / bases;
+        boolean ring = size == 5 || size >= 3 && random.nextBoolean();
+        String head = "nodes " + nodes + ";all;shape " + (ring ? "ring " : pick("path ", "star ")) + size + ";";
+        String text = head;
+        for (int tries = 0; tries < 300 && !isGood(text, nodes); tries++) {
+            StringBuilder drawn = new StringBuilder(head);
+            for (int base = 0; base < differences / size; base++) {
+                drawn.append("base ").append(row(random.nextInt(3) == 0 ? 31 : nodes, ring ? size : size + 1)).append(';');
+            }
+            text = drawn.toString();
+        }
+        return text;
+    }
+
+    private static boolean isGood(String text, int nodes) {
+        Model model = new Model();
+        for (int[] five : Due.numbers(text)) {
+            model.feed(five);
+        }
+        return model.text(text.length()) >= 0 && model.good(nodes) == PartedNet.NONE;
     }
 
     private String row(int nodes, int count) {
